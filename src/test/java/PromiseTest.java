@@ -1,51 +1,8 @@
-import java.util.NoSuchElementException;
-
 /**
  * One method for each promise: ordinary inputs, the edges that the document names, wrong inputs.
  * The warehouses are small enough to be followed by hand; what stands in them is told where used.
  */
-public final class PromiseTest {
-    private static final Class<?> NO_ELEMENT = NoSuchElementException.class;
-    private static final Class<?> ARGUMENT = IllegalArgumentException.class;
-    private static final Class<?> STATE = IllegalStateException.class;
-
-    private static int promise = 0;
-    private static int wrong = 0;
-
-    private interface Asked {
-        void ask();
-    }
-
-    private static void due(String call, long got, long want) {
-        if (got != want) {
-            wrong++;
-            System.out.println("promise " + promise + ": " + call + " answered " + got + ", due is " + want);
-        }
-    }
-
-    private static void due(String call, boolean got, boolean want) {
-        due(call, got ? 1 : 0, want ? 1 : 0);
-    }
-
-    private static void refused(String call, Class<?> with, Asked asked) {
-        Class<?> got = null;
-        try {
-            asked.ask();
-        } catch (RuntimeException e) {
-            got = e.getClass();
-        }
-        if (got != with) {
-            wrong++;
-            System.out.println("promise " + promise + ": " + call + " threw " + got + ", due is " + with);
-        }
-    }
-
-    private static StockDrawer drawn(int seed, int size) {
-        StockDrawer x = new StockDrawer(seed);
-        x.draw(size);
-        return x;
-    }
-
+public final class PromiseTest extends Check {
     /** All parts as one text, without whether they are left. */
     private static String parts(StockDrawer x) {
         StringBuilder text = new StringBuilder();
@@ -57,23 +14,8 @@ public final class PromiseTest {
         return text.toString();
     }
 
-    private static String left(StockDrawer x) {
-        StringBuilder text = new StringBuilder();
-        for (int i = 0; i < x.count(5); i++) {
-            text.append(x.left(i)).append(' ');
-        }
-        return text.toString().trim();
-    }
-
-    private static void dueText(String call, String got, String want) {
-        if (!got.equals(want)) {
-            wrong++;
-            System.out.println("promise " + promise + ": " + call + " answered " + got + ", due is " + want);
-        }
-    }
-
     private static void newObject() {
-        promise = 1;
+        sentence("promise 1");
         StockDrawer x = new StockDrawer(5);
         for (int what = 0; what < 7; what++) {
             due("count(" + what + ")", x.count(what), 0);
@@ -97,7 +39,7 @@ public final class PromiseTest {
     }
 
     private static void draw() {
-        promise = 2;
+        sentence("promise 2");
         StockDrawer x = new StockDrawer(2);
         due("draw(0)", x.draw(0), 5);
         dueText("draw(0)", parts(x),
@@ -147,7 +89,7 @@ public final class PromiseTest {
     }
 
     private static void again() {
-        promise = 3;
+        sentence("promise 3");
         StockDrawer x = drawn(2, 0);
         x.leave(3, true);
         x.again(25);
@@ -162,7 +104,7 @@ public final class PromiseTest {
     }
 
     private static void part() {
-        promise = 4;
+        sentence("promise 4");
         StockDrawer x = drawn(25, 1);
         int[][] facts = {
             {0, 0, 13, -1, -1, 0, 0, 1}, {0, 1, 19, -1, -1, 0, 0, 1},
@@ -188,7 +130,7 @@ public final class PromiseTest {
     }
 
     private static void leave() {
-        promise = 5;
+        sentence("promise 5");
         // a room of 6, 3 grams; 4 put, 5 put (a lie), 4 taken
         StockDrawer x = drawn(2, 0);
         due("leave(3, true), verdict 0", x.leave(3, true), true);
@@ -216,7 +158,7 @@ public final class PromiseTest {
     }
 
     private static void conditions() {
-        promise = 6;
+        sentence("promise 6");
         due("all of them", drawn(61, 1).conditions(), 63);
         due("none: 3 put twice, 6 of 17 grams", drawn(1, 0).conditions(), 0);
         due("0 and 1: 21 of 19 grams, -5 pieces", drawn(25, 1).conditions(), 3);
@@ -242,7 +184,7 @@ public final class PromiseTest {
     }
 
     private static void verdict() {
-        promise = 7;
+        sentence("promise 7");
         StockDrawer x = drawn(2, 0);
         int so = 25;
         for (int bits = 0; bits < 64; bits++) {
@@ -264,7 +206,7 @@ public final class PromiseTest {
     }
 
     private static void holds() {
-        promise = 8;
+        sentence("promise 8");
         StockDrawer x = drawn(2, 0);
         due("holds()", x.holds(), true);
         x.verdict(9);
@@ -279,7 +221,7 @@ public final class PromiseTest {
     }
 
     private static void shorter() {
-        promise = 9;
+        sentence("promise 9");
         // two places, two goods; at place 1 of good 0: 4 put, 4 taken, 3 taken (a lie), 2 put
         StockDrawer x = drawn(61, 1);
         x.verdict(63);
@@ -336,7 +278,7 @@ public final class PromiseTest {
     }
 
     private static void minimal() {
-        promise = 10;
+        sentence("promise 10");
         StockDrawer x = drawn(61, 1);
         due("minimal(), verdict 0 with parts left", x.minimal(), false);
         x.verdict(8);
@@ -361,7 +303,7 @@ public final class PromiseTest {
     }
 
     private static void leftOnes() {
-        promise = 11;
+        sentence("promise 11");
         StockDrawer x = drawn(2, 0);
         for (int i = 0; i < 5; i++) {
             due("left(" + i + ")", x.left(i), i);
@@ -379,7 +321,7 @@ public final class PromiseTest {
     }
 
     private static void whole() {
-        promise = 12;
+        sentence("promise 12");
         StockDrawer x = drawn(2, 0);
         due("whole(), none out", x.whole(), 0);
         x.leave(0, true);
@@ -396,7 +338,7 @@ public final class PromiseTest {
     }
 
     private static void pieces() {
-        promise = 13;
+        sentence("promise 13");
         StockDrawer x = drawn(25, 1);
         int[][] stock = {{2, -5}, {5, 2}};
         for (int place = 0; place < 2; place++) {
@@ -424,7 +366,7 @@ public final class PromiseTest {
     }
 
     private static void most() {
-        promise = 14;
+        sentence("promise 14");
         StockDrawer x = drawn(25, 1);
         due("most(0), pieces below 0 do not weigh", x.most(0), 6);
         due("most(1), two goods", x.most(1), 21);
@@ -445,7 +387,7 @@ public final class PromiseTest {
     }
 
     private static void same() {
-        promise = 15;
+        sentence("promise 15");
         StockDrawer x = drawn(25, 1);
         due("same(25, 1)", x.same(25, 1), true);
         due("same(25, 2)", x.same(25, 2), false);
@@ -486,7 +428,7 @@ public final class PromiseTest {
     }
 
     private static void count() {
-        promise = 16;
+        sentence("promise 16");
         StockDrawer x = drawn(61, 1);
         long[] whole = {8, 2, 2, 4, 1, 8, 4, 1};
         for (int what = 0; what < whole.length; what++) {
@@ -526,9 +468,6 @@ public final class PromiseTest {
         most();
         same();
         count();
-        System.out.println(wrong == 0 ? "all promises are kept" : wrong + " answers break a promise");
-        if (wrong != 0) {
-            System.exit(1);
-        }
+        end();
     }
 }
