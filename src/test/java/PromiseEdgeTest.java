@@ -316,6 +316,8 @@ public final class PromiseEdgeTest extends Check {
         due("verdict(32) before a drawing", x.verdict(32), false);
         x.draw(0);
         due("holds() with an idle place", x.holds(), true);
+        due("leave(0, true), verdict 32 behind the drawing", x.leave(0, true), false);
+        due("leave(0, false)", x.leave(0, false), true);
         x.verdict(8);
         x.verdict(0);
         due("holds(), 0 again", x.holds(), true);
@@ -382,6 +384,11 @@ public final class PromiseEdgeTest extends Check {
         x.verdict(8);
         due("shorter()", x.shorter(), 3);
         dueText("left, the first of two lies", left(x), "0 1 2");
+        // behind part 4 comes part 3, not part 5 again, which could be out by now
+        StockDrawer y = drawn(8, 1, "rooms 16, grams 2: 0/0 +2, 0/0 +3, 0/0 +1!, 0/0 +3, 0/0 -3");
+        y.verdict(4);
+        due("shorter(), a round to its end", y.shorter(), 4);
+        dueText("left", left(y), "0 1 5 6");
     }
 
     private static void shorterOverAndOver() {
@@ -410,6 +417,21 @@ public final class PromiseEdgeTest extends Check {
         due("shorter() again", x.shorter(), 3);
         dueText("left, what is out stays out", left(x), "0 1 4");
         due("shorter() once more", x.shorter(), 3);
+    }
+
+    private static void shorterIsMinimal() {
+        sentence("Promise 9: behind it no single part can be out, of any size, for any verdict that holds");
+        for (int seed = 0; seed < 600; seed++) {
+            StockDrawer y = drawn(seed, seed % 6);
+            int so = y.conditions();
+            for (int mask = 1; mask < 64; mask += 2) {
+                y.whole();
+                y.verdict(so & mask);
+                int rest = y.shorter();
+                due("count(5) behind shorter(), seed " + seed + ", " + (so & mask), y.count(5), rest);
+                due("minimal() behind shorter(), seed " + seed + ", " + (so & mask), y.minimal(), true);
+            }
+        }
     }
 
     private static void shorterForEachCondition() {
@@ -780,6 +802,7 @@ public final class PromiseEdgeTest extends Check {
         shorterFromTheLastToTheFirst();
         shorterOverAndOver();
         shorterTillNoSingleOneCanBe();
+        shorterIsMinimal();
         shorterForEachCondition();
         minimalOfNothing();
         minimalIfItHolds();

@@ -22,7 +22,8 @@ public final class RoomTest {
 
     private static long bytesOfARun(ThreadMXBean bean, StockDrawer x) {
         long before = bean.getCurrentThreadAllocatedBytes();
-        for (int turn = 0; turn < 40; turn++) {
+        // 32 turns of 16 calls are the 512 that an object is for
+        for (int turn = 0; turn < 32; turn++) {
             everyCall(x, turn);
         }
         return bean.getCurrentThreadAllocatedBytes() - before;
