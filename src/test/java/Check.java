@@ -1,4 +1,6 @@
+import java.util.HashSet;
 import java.util.NoSuchElementException;
+import java.util.Set;
 
 /** What the tests share: answers held against those that are due, and warehouses told as texts. */
 abstract class Check {
@@ -9,6 +11,8 @@ abstract class Check {
     private static String sentence = "";
     private static int sentences = 0;
     private static int wrong = 0;
+    /** The sentences under which an answer was looked at, or a refusal, then with its exception's name. */
+    private static final Set<String> looked = new HashSet<>();
 
     interface Call {
         void ask();
@@ -25,7 +29,12 @@ abstract class Check {
         System.out.println(sentence + ": " + text);
     }
 
+    static boolean hasLookedAt(String sentenceOrRefusal) {
+        return looked.contains(sentenceOrRefusal);
+    }
+
     static void dueText(String call, String got, String want) {
+        looked.add(sentence);
         if (!got.equals(want)) {
             fault(call + " answered " + got + ", due is " + want);
         }
@@ -40,6 +49,7 @@ abstract class Check {
     }
 
     static void refused(String call, Class<?> with, Call asked) {
+        looked.add(sentence + " " + with.getSimpleName());
         Class<?> got = null;
         try {
             asked.ask();
